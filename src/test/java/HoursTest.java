@@ -13,6 +13,7 @@ public final class HoursTest {
         promise20Foretell();
         promise21When();
         promise21WhenEdges();
+        promise21WhenIsCut();
         due.end();
     }
 
@@ -233,5 +234,17 @@ public final class HoursTest {
         sell(h, 0, 0);
         h.hours(23);
         due.is("21 from now on, the first hour", h.when(0, 0), 1);
+    }
+
+    /** A sale in three hours is a RATE of 333: three days are 999, not a piece yet. */
+    private static void promise21WhenIsCut() {
+        SlotHouse h = new SlotHouse();
+        h.machine();
+        h.lane(0, 2, 50, 20, 0, 0);
+        h.fill(0, 0, 2);
+        sell(h, 0, 0);
+        h.hours(72);
+        due.is("21 three days", h.foretell(0, 2, 49), 999);
+        due.is("21 the fourth day", h.when(0, 0), 73);
     }
 }

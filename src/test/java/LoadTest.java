@@ -7,6 +7,7 @@ public final class LoadTest {
     public static void main(String[] args) {
         promise22Load();
         promise22Ties();
+        promise22OneAfterAnother();
         promise22Refusals();
         promise23Loaded();
         Random random = new Random(20261116);
@@ -60,6 +61,22 @@ public final class LoadTest {
         due.is("22 same worth, less room", h.load(0, 4), 40);
         due.is("22 not the least lane", h.loaded(0), 0);
         due.is("22 that of less room", h.loaded(1), 1);
+    }
+
+    /** What an earlier load has left behind must not count in a later one. */
+    private static void promise22OneAfterAnother() {
+        SlotHouse h = new SlotHouse();
+        h.machine();
+        h.machine();
+        h.lane(0, 0, 10, 5, 0, 0);
+        h.lane(0, 0, 900, 5, 0, 0);
+        h.lane(0, 0, 800, 5, 0, 0);
+        h.lane(1, 0, 20, 5, 0, 0);
+        due.is("22 three lanes", h.load(0, 12), 5 * 900 + 5 * 800 + 2 * 10);
+        due.is("22 then one lane", h.load(1, 3), 60);
+        due.is("22 its pieces", h.loaded(0), 3);
+        due.is("22 no pieces of the former", h.loaded(1) + h.loaded(2), 0);
+        due.is("22 three lanes again", h.load(0, 1), 900);
     }
 
     private static void promise22Refusals() {

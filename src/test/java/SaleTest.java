@@ -47,7 +47,18 @@ public final class SaleTest {
         due.is("13 in", h.machineOf(0, 3), 1020);
         due.is("13 check", h.check(0), true);
         h.back(0);
-        due.is("13 after back", h.insert(0, 5), 10);
+        twentyMore(h, "after back");
+        h.lane(0, 0, 200, 1, 0, 0);
+        h.fill(0, 0, 1);
+        due.is("13 a sale", h.choose(0, 0), 0);
+        twentyMore(h, "after a sale");
+    }
+
+    private static void twentyMore(SlotHouse h, String then) {
+        for (int i = 1; i <= 20; i++) {
+            due.is("13 insert " + then, h.insert(0, 5), 10 * i);
+        }
+        due.is("13 the 21st " + then, h.insert(0, 5), -6);
     }
 
     private static void promise14Back() {
