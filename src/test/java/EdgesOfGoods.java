@@ -159,6 +159,13 @@ final class EdgesOfGoods {
         e.is("not SHUT any more", h.load(0, 200), 5 * 60);
         h.empty(0, 0);
         e.is("not SPOILED any more", h.load(0, 200), 5 * 50 + 5 * 60);
+        SlotHouse between = Houses.lane(10, 5, Houses.PLAIN, 0);
+        between.lane(0, 4, 5000, 5, Houses.PLAIN, 0);
+        between.lane(0, 5, 20, 5, Houses.PLAIN, 0);
+        between.shut(0, 1, true);
+        e.is("the one behind a SHUT one", between.load(0, 5), 100);
+        e.is("none for the one before it", between.loaded(0), 0);
+        e.is("five for the one behind it", between.loaded(2), 5);
     }
 
     private static void loadOfTheGreatestWorth(Edges e) {
