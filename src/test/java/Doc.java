@@ -14,16 +14,19 @@ final class Doc {
     private static final Path FILE = Path.of("../shared/DOC.md");
 
     private final boolean isThere;
+    private final String face;
+    private final String[] heads = new String[PROMISES + 1];
     private final String[] texts = new String[PROMISES + 1];
     private final boolean[][] covered = new boolean[PROMISES + 1][];
 
     Doc() throws IOException {
         isThere = Files.exists(FILE);
         String all = isThere ? Files.readString(FILE) : "";
-        String calls = between(all, "## What it is\n", "\n## ").replaceFirst("(?s)^.*?====", "====");
-        texts[TERMS] = plain(calls + " " + between(all, "## Terms\n", "\n## "));
+        texts[TERMS] = plain(between(all, "## What it is\n", "\n## ") + " " + between(all, "## Terms\n", "\n## "));
+        face = plain(between(all, "## The public face\n", "\n## "));
         for (int p = 1; p <= PROMISES; p++) {
             String told = between(all, "## Promise " + p + ":", "\n## ");
+            heads[p] = plain(told.replaceFirst("(?s)^[^`]*`([^`]*)`:.*", "$1"));
             texts[p] = plain(told.replaceFirst("(?s)^.*?`[^`]*`:", ""));
         }
         for (int p = 0; p <= PROMISES; p++) {
@@ -40,7 +43,17 @@ final class Doc {
         return from >= 0 || !isThere;
     }
 
-    /** The words of a promise, or of the Terms, that stand in no quote. */
+    /** Whether "The public face" is just this class, word for word. */
+    boolean showsFace(String declaration) {
+        return !isThere || face.equals(declaration);
+    }
+
+    /** Whether a promise is told of this constructor or method. */
+    boolean tellsOf(int promise, String head) {
+        return !isThere || heads[promise].equals(head);
+    }
+
+    /** The words of a promise, or of "What it is" and the Terms, that stand in no quote. */
     String left(int promise) {
         StringBuilder left = new StringBuilder();
         for (int i = 0; i < texts[promise].length(); i++) {
@@ -60,6 +73,6 @@ final class Doc {
     }
 
     private static String plain(String text) {
-        return text.replaceAll("```(text)?", " ").replaceAll("\\s+", " ").trim();
+        return text.replaceAll("```(text|java)?", " ").replaceAll("\\s+", " ").trim();
     }
 }

@@ -10,10 +10,22 @@ final class Edges {
         doc = new Doc();
     }
 
-    /** All that is asked from here on belongs to this sentence; promise 0 is the Terms. */
+    /** All that is asked from here on belongs to this sentence; 0 is "What it is" and the Terms. */
     void sentence(int promise, String quote) {
         sentence = (promise == Doc.TERMS ? "Terms" : "Promise " + promise) + " '" + quote + "': ";
         due.is(sentence + "it stands in the document", doc.cover(promise, quote), true);
+    }
+
+    /** The document's public face, and the promises' heads, are those that the tests call. */
+    void face() {
+        sentence = "The public face: ";
+        String all = "public final class SlotHouse { public SlotHouse(); public " + String.join("; public ", Face.METHODS) + "; }";
+        is("it is " + all, doc.showsFace(all), true);
+        is("promise 1 is of SlotHouse()", doc.tellsOf(1, "SlotHouse()"), true);
+        for (int p = 2; p <= Doc.PROMISES; p++) {
+            String method = Face.METHODS.get(p - 2);
+            is("promise " + p + " is of " + method, doc.tellsOf(p, method), true);
+        }
     }
 
     void terms(String quote) {
